@@ -863,16 +863,13 @@ public final class WakeVillage {
         }
 
         int hopsBetween(int from, int goal) {
-            if (from == goal) {
-                return 0;
-            }
             int open = notOut();
             int reached = 1 << from & open;
-            for (int hops = 1; hops < MOST_NODES; hops++) {
-                reached = grown(reached, open);
+            for (int hops = 0; hops < MOST_NODES; hops++) {
                 if (has(reached, goal)) {
                     return hops;
                 }
+                reached = grown(reached, open);
             }
             return NONE;
         }
@@ -971,30 +968,29 @@ public final class WakeVillage {
             int there = 0;
             for (int i = 0; i < messageCount; i++) {
                 Message message = messageAt(i);
-                if (message.state == Message.UNDER_WAY && message.isUrgent == isUrgent && passes(message)) {
-                    if (message.state == Message.THERE) {
-                        there++;
-                    }
+                if (message.state == Message.UNDER_WAY && message.isUrgent == isUrgent) {
+                    tryToPass(message);
+                    there += message.state == Message.THERE ? 1 : 0;
                 }
             }
             return there;
         }
 
-        private boolean passes(Message message) {
+        private void tryToPass(Message message) {
             boolean isGiverAwake = has(awake, message.at);
             if (has(passedOne, message.at) || !isGiverAwake && !message.isUrgent) {
-                return false;
+                return;
             }
             int next = nextTowards(message.at, message.goal, notOut());
             if (next == NONE || has(gotOne, next)) {
-                return false;
+                return;
             }
             boolean areAwake = isGiverAwake && has(awake, next);
             int cost = areAwake ? costToPass : costToPass + costToCall;
             Node giver = nodeAt(message.at);
             Node taker = nodeAt(next);
             if (!areAwake && !message.isUrgent || giver.energy < cost || taker.energy < cost) {
-                return false;
+                return;
             }
             giver.energy -= cost;
             giver.passed++;
@@ -1003,7 +999,6 @@ public final class WakeVillage {
             taker.got++;
             gotOne |= 1 << next;
             moveTo(message, next);
-            return true;
         }
 
         private void moveTo(Message message, int next) {

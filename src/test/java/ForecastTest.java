@@ -209,6 +209,14 @@ final class ForecastTest {
         two.setShift(0, 5);
         two.tick(2);
         Check.equal("7 is gone by", two.bestWatch(0, 1), 8);
+        // b watches 4, which is just one tick sooner than their birthday, and then 0
+        WakeVillage one = Made.of("year 10; node a born 5 shift 6 energy 50; node b born 5 shift 6 energy 50; link a b;");
+        one.watch(1, 4, true);
+        Check.equal("one tick sooner", one.bestWatch(0, 1), 4);
+        one.watch(1, 0, true);
+        Check.equal("day 0", one.bestWatch(0, 1), 0);
+        one.watch(1, 9, true);
+        Check.equal("day 9, the last, is sooner", one.bestWatch(0, 1), 9);
     }
 
     private static void beyondTheLatestTime() {

@@ -126,6 +126,13 @@ final class KeepingTest {
         Check.equal("misses can be undone", x.setMiss(1), 2);
         x.undo();
         Check.equal("misses were undone", x.setMiss(1), 2);
+        WakeVillage again = Made.of(Made.CHAIN);
+        again.send(0, 1, 9, true);
+        again.tick(3);
+        again.undo();
+        again.undo();
+        again.send(1, 2, 7, false);
+        Check.equal("another message in its place", Made.messageOf(again, 0), "1 2 1 0 7 0 -1 0");
         WakeVillage y = Made.of(Made.CHAIN);
         for (int i = 0; i < 20; i++) {
             y.tick(2);
@@ -192,8 +199,11 @@ final class KeepingTest {
         String before = Made.allOf(x);
         int later = x.energyIn(1, 50);
         x.save();
-        Made.feed(x, "year 30; costs 9 9 9; miss 1; node zz born 29 energy 999;");
+        Made.feed(x, "year 30; costs 9 9 9; miss 1; node zz born 29 energy 999; node y born 1 energy 9;");
         x.readText();
+        for (int i = 0; i < 9; i++) {
+            x.send(1, 0, 999, i % 2 == 0);
+        }
         Made.feed(x, "tick 2; foo");
         Check.argument("an error", () -> x.runScript());
         x.feed(0x7469636b, 0x20373b20, 0x20202020, 0x20202020, 0x20202020);

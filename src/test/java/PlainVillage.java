@@ -731,7 +731,7 @@ public final class PlainVillage {
     public int hops(int node, int other) {
         needNode(node);
         needNode(other);
-        return node == other ? 0 : orNone(now.ways()[node][other]);
+        return orNone(now.ways()[node][other]);
     }
 
     public int nextNode(int node, int other) {

@@ -154,5 +154,10 @@ final class ScriptTest {
         Check.equal("the report stays", x.reportByte(0), (int) 'a');
         Check.equal("undo of a script", x.undo(), 1);
         Check.equal("the time before the script", x.setting(3), 1);
+        Made.feed(x, "repeat 2 ( repeat 2 ( tick 0000;");
+        Check.argument("an error in two repeats", () -> x.runScript());
+        Check.equal("two repeats behind it", Made.run(x, "repeat 2 ( repeat 2 ( tick 1; ); );"), 4);
+        Made.run(x, "repeat 2 ( repeat 2 ( tick 0; ); );");
+        Check.equal("behind a script that ended in two repeats", Made.run(x, "tick 1; tick 1;"), 2);
     }
 }

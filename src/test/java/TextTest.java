@@ -105,6 +105,7 @@ final class TextTest {
         good(" \n \n", 0);
         good("year4;", 0);
         good("year 60;costs 0 99 0;miss 1;", 0);
+        good("costs 99 0 99;", 0);
         good("\nyear\n012\n;\nmiss 9 ; costs0 0 0;", 0);
         good("node abcdefgh born 59 shift 59 energy 999; year 4;", 1);
         good("node abcdefgh born 0 shift 0 energy 1; node abcdefg born0energy1;", 2);
@@ -147,6 +148,8 @@ final class TextTest {
         bad("(", 1, 0);
         bad(")", 1, 0);
         bad("Year 12;", 1, 0);
+        bad("fear 12;", 1, 0);
+        bad("yeas 12;", 1, 0);
         bad("yearyearyear", 1, 0);
         bad("years 12;", 1, 0);
         bad("yea 12;", 1, 0);
@@ -161,6 +164,7 @@ final class TextTest {
 
     private static void badNodes() {
         bad("node", 1, 4);
+        bad("node ;", 1, 5);
         bad("node 1 born 1 energy 5;", 1, 5);
         bad("node abcdefghi born 1 energy 5;", 1, 5);
         bad("node a energy 5;", 1, 7);
@@ -237,6 +241,18 @@ final class TextTest {
         Check.equal("the position is gone", x.errorPosition(), WakeVillage.NONE);
     }
 
+    /** Both wake at 1 and pass one; at 2 both sleep, and one calls. */
+    private static void theCostsOf(WakeVillage x, String costs, int wake, int pass, int call) {
+        Made.feed(x, costs + "year 5; node a born 1 energy 99; node b born 1 energy 99; link a b;");
+        x.readText();
+        x.send(0, 1, 9, false);
+        x.tick(1);
+        Check.equal("[" + costs + "] to wake and pass", x.node(1, 2), 99 - wake - pass);
+        x.send(0, 1, 9, true);
+        x.tick(1);
+        Check.equal("[" + costs + "] to call", x.node(0, 2), 99 - wake - pass - pass - call);
+    }
+
     private static void whatATextReplaces() {
         WakeVillage x = Made.of(Made.CHAIN);
         x.tick(12);
@@ -258,5 +274,9 @@ final class TextTest {
         Check.equal("the year is as without a word", x.setting(2), 12);
         x.tick(1);
         Check.equal("it costs 1 to wake without a word", x.node(0, 2), 4);
+        theCostsOf(x, "costs 9 8 7; miss 9;", 9, 8, 7);
+        theCostsOf(x, "", 1, 2, 5);
+        theCostsOf(x, "costs 0 0 0; miss 1;", 0, 0, 0);
+        theCostsOf(x, "costs 3 4 6;", 3, 4, 6);
     }
 }

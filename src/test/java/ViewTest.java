@@ -36,6 +36,13 @@ final class ViewTest {
         Check.equal("not out", x.setting(8), 3);
         Check.equal("taken", x.setting(9), 1);
         Check.equal("to undo", x.setting(10), 4);
+        WakeVillage three = Made.of(Made.CHAIN);
+        three.send(0, 1, 1, false);
+        three.send(0, 1, 9, true);
+        three.send(1, 0, 2, false);
+        three.tick(30);
+        Check.equal("all three there", three.setting(5), 3);
+        Check.equal("two in time, one too late", three.setting(6), 2);
         WakeVillage y = Made.of("node a born 1 energy 1; node b born 2 energy 9; link a b;");
         y.send(0, 1, 1, false);
         y.tick(1);
@@ -163,6 +170,7 @@ final class ViewTest {
     private static void means() {
         WakeVillage x = Made.of("node a born 1 energy 9; node b born 3 energy 5; node c born 3 energy 6;");
         Check.equal("mean", x.meanEnergy(), 20.0 / 3.0);
+        Check.equal("mean of one", Made.of("node a born 1 energy 9;").meanEnergy(), 9.0);
         Check.equal("mean of 40", Made.of(Made.CHAIN).meanEnergy(), 40.0);
     }
 }

@@ -86,6 +86,10 @@ final class WakeTest {
         Check.equal("most in 3", x.busiest(), 3);
         x.tick(3);
         Check.equal("in a year again", x.busiest(), 10);
+        x.tick(7);
+        Check.equal("two at 11, three at 13", x.busiest(), 3);
+        x.watch(2, 1, true);
+        Check.equal("three at 11 and 13", x.busiest(), 1);
         WakeVillage y = Made.of("year 10; node a born 4 energy 1; node b born 2 energy 9;");
         Check.equal("the least of two alike", y.busiest(), 2);
         y.tick(4);
@@ -151,6 +155,7 @@ final class WakeTest {
         Check.equal("round c, next", x.nextNode(1, 3), 0);
         Check.equal("from an out one", x.hops(2, 1), WakeVillage.NONE);
         Check.equal("to an out one", x.hops(1, 2), WakeVillage.NONE);
+        Check.equal("from an out one to itself", x.hops(2, 2), WakeVillage.NONE);
         Check.equal("next from an out one", x.nextNode(2, 1), WakeVillage.NONE);
         Check.equal("next to an out one", x.nextNode(1, 2), WakeVillage.NONE);
         x.charge(2, 1);
