@@ -265,6 +265,12 @@ final class TextTest {
         Check.equal("a text again", x.readText(), 3);
         Check.equal("a text replaces all", Made.allOf(x), Made.allOf(Made.of(Made.CHAIN)));
         Check.equal("a text forgets undo", x.undo(), WakeVillage.NONE);
+        x.send(0, 1, 9, false);
+        x.tick(1);
+        Made.feed(x, Made.CHAIN);
+        x.readText();
+        x.send(1, 2, 8, true);
+        Check.equal("a message behind a text", Made.messageOf(x, 0), "1 2 1 0 8 1 -1 0");
         Check.equal("the report stays", x.reportByte(length - 1), 10);
         Check.equal("what is saved stays", x.restore(), 12);
         Check.equal("all that was saved", Made.allOf(x), saved);
