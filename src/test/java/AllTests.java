@@ -6,12 +6,16 @@ public final class AllTests {
     public static void main(String[] args) throws Exception {
         LanguageTest.run(args.length > 0 ? args[0] : "src/main/java/WakeVillage.java");
         TextTest.run();
+        EdgeTextTest.run();
         ScriptTest.run();
+        EdgeScriptTest.run();
         ViewTest.run();
         WakeTest.run();
         ForecastTest.run();
         TickTest.run();
+        EdgeTickTest.run();
         ChangeTest.run();
+        EdgeRefusalTest.run();
         KeepingTest.run();
         CompareTest.run(300, 200);
         System.out.println(Check.passed + " passed, " + Check.failed + " failed");
