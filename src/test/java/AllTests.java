@@ -16,7 +16,9 @@ public final class AllTests {
         EdgeTickTest.run();
         ChangeTest.run();
         EdgeRefusalTest.run();
+        EdgePromiseTest.run();
         KeepingTest.run();
+        EdgeChangeTest.run();
         CompareTest.run(300, 200);
         System.out.println(Check.passed + " passed, " + Check.failed + " failed");
         if (Check.failed != 0) {
