@@ -5,6 +5,7 @@ public final class AllTests {
 
     public static void main(String[] args) throws Exception {
         LanguageTest.run(args.length > 0 ? args[0] : "src/main/java/WakeVillage.java");
+        ReadmeTest.run("README.md");
         TextTest.run();
         EdgeTextTest.run();
         ScriptTest.run();

@@ -12,7 +12,12 @@ final class CompareTest {
         "send", "call", "watch", "charge", "repeat", "(", ")", ";", "0", "1", "7", "60", "999", "1000", "?", "zz",
         "abcdefghi", "\n"};
 
+    private static final int[] FAR = {Integer.MIN_VALUE, Integer.MIN_VALUE + 1, -9999, -60, -1, 0, 9, 10, 15, 16, 59, 60,
+        61, 99, 100, 200, 201, 599, 600, 601, 999, 1000, 9999, 1 << 16, Integer.MAX_VALUE - 1, Integer.MAX_VALUE};
+
     private final Random random;
+    /** Full villages with long names, far arguments, late times. */
+    private final boolean isFar;
     private final List<Method> methods = new ArrayList<>();
     private final WakeVillage real = new WakeVillage();
     private final PlainVillage plain = new PlainVillage();
@@ -20,8 +25,9 @@ final class CompareTest {
     private int nodes;
     private boolean isAlike = true;
 
-    private CompareTest(long seed) {
+    private CompareTest(long seed, boolean isFar) {
         random = new Random(seed);
+        this.isFar = isFar;
         for (Method method : WakeVillage.class.getDeclaredMethods()) {
             if (Modifier.isPublic(method.getModifiers())) {
                 methods.add(method);
@@ -32,7 +38,7 @@ final class CompareTest {
 
     static void run(int runs, int calls) throws Exception {
         for (long seed = 1; seed <= runs; seed++) {
-            CompareTest test = new CompareTest(seed);
+            CompareTest test = new CompareTest(seed, seed % 4 == 0);
             test.oneRun(calls);
             Check.equal("run of seed " + seed + (test.isAlike ? "" : test.story.toString()), test.isAlike, true);
         }
@@ -52,8 +58,8 @@ final class CompareTest {
                 call("errorCode");
                 call("errorPosition");
             } else if (kind < 30) {
-                call("tick", random.nextInt(20) == 0 ? number(120) : random.nextInt(8) + 1);
-            } else if (kind < 40) {
+                call("tick", isFar || random.nextInt(20) == 0 ? number(120) : random.nextInt(8) + 1);
+            } else if (kind < 40 || isFar && kind < 60) {
                 call("send", aNode(), aNode(), number(50), random.nextInt(3) == 0 ? 1 : 0);
             } else {
                 callAny();
@@ -65,10 +71,16 @@ final class CompareTest {
     }
 
     private int number(int below) {
+        if (isFar && random.nextInt(4) == 0) {
+            return FAR[random.nextInt(FAR.length)];
+        }
         return random.nextInt(40) == 0 ? random.nextInt(2100) - 50 : random.nextInt(below);
     }
 
     private int aNode() {
+        if (isFar && random.nextInt(10) == 0) {
+            return FAR[random.nextInt(FAR.length)];
+        }
         return random.nextInt(40) == 0 ? random.nextInt(14) - 2 : random.nextInt(Math.max(1, nodes));
     }
 
@@ -163,13 +175,13 @@ final class CompareTest {
 
     private String text() {
         StringBuilder text = new StringBuilder();
-        int many = random.nextInt(8) == 0 ? random.nextInt(13) : 2 + random.nextInt(6);
+        int many = random.nextInt(8) == 0 ? random.nextInt(13) : isFar ? 10 : 2 + random.nextInt(6);
         int year = 4 + random.nextInt(random.nextInt(4) == 0 ? 57 : 12);
         if (random.nextInt(8) != 0) {
             text.append("year ").append(year).append(";");
         }
         for (int i = 0; i < many; i++) {
-            text.append("node ").append((char) ('a' + i)).append(" born ").append(random.nextInt(year));
+            text.append("node ").append(nameOf(i)).append(" born ").append(random.nextInt(year));
             if (random.nextBoolean()) {
                 text.append(" shift ").append(random.nextInt(year));
             }
@@ -183,7 +195,7 @@ final class CompareTest {
             if (a != b && !linked[a * 20 + b]) {
                 linked[a * 20 + b] = true;
                 linked[b * 20 + a] = true;
-                text.append("link ").append((char) ('a' + a)).append(' ').append((char) ('a' + b)).append(";\n");
+                text.append("link ").append(nameOf(a)).append(' ').append(nameOf(b)).append(";\n");
             }
         }
         if (random.nextInt(3) != 0) {
@@ -198,7 +210,15 @@ final class CompareTest {
     }
 
     private String name() {
-        return String.valueOf((char) ('a' + random.nextInt(random.nextInt(30) == 0 ? 20 : Math.max(1, nodes))));
+        return nameOf(random.nextInt(random.nextInt(30) == 0 ? 20 : Math.max(1, nodes)));
+    }
+
+    /** Of far runs up to eight letters, all but the last the same, and some are words of the grammar. */
+    private String nameOf(int node) {
+        if (isFar && node < 3) {
+            return WORDS[3 + node];
+        }
+        return (isFar ? "zyxwvut".substring(0, node % 8) : "") + (char) ('a' + node);
     }
 
     private String script(int depth) {
